@@ -251,10 +251,6 @@ public final class StencilCompiler {
             return stageCount - 1;
         }
 
-        private int inputAt(int x) {
-            return row[Math.max(0, Math.min(row.length - 1, x))];
-        }
-
         private int tileCount() {
             return (width + tileSize - 1) / tileSize;
         }
@@ -265,11 +261,6 @@ public final class StencilCompiler {
 
         private int tileLast(int t) {
             return Math.min(tileFirst(t) + tileSize, width) - 1;
-        }
-
-        /** THE OUTPUT's own MODE doesn't matter, so it never counts as ROOT or TILED here. */
-        private boolean isScheduledAs(int s, int mode) {
-            return s != output && stages[s].mode == mode;
         }
 
         /** Told without working anything out, so that a question that is too dear costs nothing. */
@@ -438,8 +429,9 @@ public final class StencilCompiler {
             }
         }
 
+        /** Asked of the stages before THE OUTPUT alone: its own MODE doesn't matter. */
         private boolean isUsedAs(int s, int mode) {
-            return regions.used[s] && pipeline.isScheduledAs(s, mode);
+            return regions.used[s] && pipeline.stages[s].mode == mode;
         }
 
         private int usedCount() {
@@ -481,26 +473,22 @@ public final class StencilCompiler {
             release(TILED);
         }
 
+        /** Stops before THE OUTPUT, which is never kept: its own MODE doesn't matter. */
         private void keep(Needs needs, int mode) {
             for (int s = 0; s < pipeline.output; s++) {
-                if (needs.used[s] && pipeline.isScheduledAs(s, mode)) {
-                    fillRow(s, needs.first[s], needs.last[s]);
-                    kept[s] = true;
+                if (!needs.used[s] || pipeline.stages[s].mode != mode) {
+                    continue;
                 }
-            }
-        }
-
-        private void fillRow(int s, int from, int to) {
-            for (int x = from; x <= to; x++) {
-                rows[s][x + REACH] = workOut(s, x);
+                for (int x = needs.first[s]; x <= needs.last[s]; x++) {
+                    rows[s][x + REACH] = workOut(s, x);
+                }
+                kept[s] = true;
             }
         }
 
         private void release(int mode) {
             for (int s = 0; s < pipeline.output; s++) {
-                if (pipeline.isScheduledAs(s, mode)) {
-                    kept[s] = false;
-                }
+                kept[s] = kept[s] && pipeline.stages[s].mode != mode;
             }
         }
 
@@ -516,7 +504,7 @@ public final class StencilCompiler {
 
         private int sourceValue(int source, int x) {
             if (source == INPUT) {
-                return pipeline.inputAt(x);
+                return pipeline.row[Math.max(0, Math.min(pipeline.row.length - 1, x))];
             }
             return kept[source] ? rows[source][x + REACH] : workOut(source, x);
         }

@@ -37,9 +37,12 @@ public final class BuildingTest {
         for (int place = -2; place < 7; place++) {
             due.is("at(0, " + place + ") over a new input", x.at(0, place), 0);
         }
+        x.output(0, 8);
+        x.compile();
+        due.is("count(4) with the first tile of 4 and width 8", x.count(4), 2);
         x.output(0, 9);
         x.compile();
-        due.is("count(4) with the first tile of 4", x.count(4), 3);
+        due.is("count(4) with the first tile of 4 and width 9", x.count(4), 3);
     }
 
     private static void lengthIsClamped() {

@@ -125,21 +125,24 @@ public final class RunTest {
 
     private static void atInAnyState() {
         due.part("promise 11");
-        StencilCompiler x = Pipelines.twoStages();
-        due.is("at(1, 2) before compile", x.at(1, 2), 10);
-        x.mode(0, 2);
-        x.compile();
-        due.is("at(1, 2) before run", x.at(1, 2), 10);
-        due.is("count(1) after at", x.count(1), 1);
-        x.run();
-        due.is("at(1, -100)", x.at(1, -100), 0);
-        due.is("at(1, 100)", x.at(1, 100), 0);
-        due.is("at(0, -1)", x.at(0, -1), 6);
-        due.is("cell(2) after at", x.cell(2), 10);
-        x.input(4, 7);
-        due.is("at(1, 2) after a change", x.at(1, 2), 12);
-        x.stage(5, 0);
-        due.is("at(2, 0), a stage that isn't used", x.at(2, 0), 5);
+        for (int mode = 0; mode < 3; mode++) {
+            StencilCompiler x = Pipelines.twoStages();
+            due.is("at(1, 2) before compile", x.at(1, 2), 10);
+            x.mode(0, mode);
+            x.compile();
+            due.is("at(1, 2) before run", x.at(1, 2), 10);
+            due.is("count(1) after at", x.count(1), 1);
+            x.run();
+            due.is("at(1, -100)", x.at(1, -100), 0);
+            due.is("at(1, 100)", x.at(1, 100), 0);
+            due.is("at(0, -1)", x.at(0, -1), 6);
+            due.is("at(0, 20)", x.at(0, 20), 18);
+            due.is("cell(2) after at", x.cell(2), 10);
+            x.input(4, 7);
+            due.is("at(1, 2) after a change", x.at(1, 2), 12);
+            x.stage(5, 0);
+            due.is("at(2, 0), a stage that isn't used", x.at(2, 0), 5);
+        }
     }
 
     private static void atOutOfRange() {
