@@ -36,50 +36,39 @@ public final class CompileTest {
         due.is("compile() with output", x.compile(), 1);
     }
 
-    /** A chain of the given modes, each stage a tap of the one before, the last being the output. */
-    private static StencilCompiler chain(int... modes) {
-        StencilCompiler x = new StencilCompiler(2);
-        for (int s = 0; s < modes.length; s++) {
-            Pipelines.addStage(x, s - 1);
-            x.mode(s, modes[s]);
-        }
-        x.output(modes.length - 1, 4);
-        return x;
-    }
-
     private static void rootAsksTiled() {
-        StencilCompiler x = chain(2, 1, 0);
+        StencilCompiler x = Pipelines.chain(2, 1, 0);
         due.is("compile() of a root over a tiled stage", x.compile(), -201);
         due.is("count(1)", x.count(1), 0);
         due.is("run()", x.run(), StencilCompiler.STATE);
         due.is("compile() again", x.compile(), -201);
-        due.is("compile() of a tiled stage over a root", chain(1, 2, 0).compile(), 12);
+        due.is("compile() of a tiled stage over a root", Pipelines.chain(1, 2, 0).compile(), 12);
     }
 
     private static void rootAsksTiledThroughInline() {
-        due.is("compile() of tiled, inline, root", chain(2, 0, 1, 0).compile(), -202);
-        due.is("compile() of tiled, inline, inline, root", chain(2, 0, 0, 1, 0).compile(), -203);
+        due.is("compile() of tiled, inline, root", Pipelines.chain(2, 0, 1, 0).compile(), -202);
+        due.is("compile() of tiled, inline, inline, root", Pipelines.chain(2, 0, 0, 1, 0).compile(), -203);
     }
 
     private static void rootsInBetweenAreNoFault() {
-        due.is("compile() of root, inline, root", chain(1, 0, 1, 0).compile(), 16);
-        due.is("compile() of tiled, inline, tiled", chain(2, 0, 2, 0).compile(), 16);
+        due.is("compile() of root, inline, root", Pipelines.chain(1, 0, 1, 0).compile(), 16);
+        due.is("compile() of tiled, inline, tiled", Pipelines.chain(2, 0, 2, 0).compile(), 16);
     }
 
     private static void unusedAndOutputAreNoFault() {
-        StencilCompiler x = chain(2, 1, 0);
+        StencilCompiler x = Pipelines.chain(2, 1, 0);
         x.output(1, 4);
         due.is("compile() with the root as output", x.compile(), 8);
         x.output(0, 4);
         due.is("compile() with the root not used", x.compile(), 4);
-        StencilCompiler y = chain(2, 1, 0);
+        StencilCompiler y = Pipelines.chain(2, 1, 0);
         Pipelines.addStage(y, 0);
         y.output(3, 4);
         due.is("compile() with an unused root below the output", y.compile(), 8);
     }
 
     private static void leastRootIsTold() {
-        StencilCompiler x = chain(2, 0, 1, 1, 0);
+        StencilCompiler x = Pipelines.chain(2, 0, 1, 1, 0);
         due.is("compile()", x.compile(), -202);
         x.tap(3, 0, 0, 1);
         due.is("compile() with two such roots", x.compile(), -202);
@@ -87,24 +76,12 @@ public final class CompileTest {
         due.is("compile() with the second one alone", x.compile(), -203);
     }
 
-    /** Stages whose last one works out 4000 values for a place, or 4001 with one tap more. */
-    private static StencilCompiler dear(boolean oneMore) {
-        StencilCompiler x = Pipelines.fourfold(5);
-        Pipelines.addStage(x, 4, 4, 4, 2);
-        Pipelines.addStage(x, 5, 4, 3, 1);
-        Pipelines.addStage(x, 6, 6, 5);
-        if (oneMore) {
-            x.tap(7, 0, 0, 1);
-        }
-        x.output(7, 1);
-        return x;
-    }
-
     private static void tooMuchWork() {
-        StencilCompiler x = dear(false);
+        StencilCompiler x = Pipelines.fourThousand();
         due.is("compile() with work 4000", x.compile(), 4000);
         due.is("count(6)", x.count(6), 4000);
-        StencilCompiler y = dear(true);
+        StencilCompiler y = Pipelines.fourThousand();
+        y.tap(7, 0, 0, 1);
         due.is("compile() with work 4001", y.compile(), -300);
         due.is("count(1)", y.count(1), 0);
         due.is("count(6)", y.count(6), 0);

@@ -160,9 +160,7 @@ public final class RunTest {
 
     private static void atWorksOutAtMost3000() {
         due.part("promise 11");
-        StencilCompiler x = Pipelines.fourfold(6);
-        Pipelines.addStage(x, 5, 3, 1, 0);
-        Pipelines.addStage(x, 6, 6, 3);
+        StencilCompiler x = Pipelines.threeThousand();
         due.is("at(7, 0) for 3000 values", x.at(7, 0), 2 * (1024 + 64 + 4 + 1) + 64);
         x.tap(7, 0, 0, 1);
         due.is("at(7, 0) for 3001 values", x.at(7, 0), StencilCompiler.NONE);
