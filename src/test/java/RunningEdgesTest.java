@@ -32,6 +32,7 @@ public final class RunningEdgesTest {
         atPlaceAtTheEnds();
         at3000Values();
         atWhateverTheSchedule();
+        atBesideKeptRows();
         atInEveryState();
         due.end();
     }
@@ -399,6 +400,20 @@ public final class RunningEdgesTest {
             x.run();
             due.is("at(7, 0) for 3001 in mode " + mode, x.at(7, 0), StencilCompiler.NONE);
             due.is("cell(0) in mode " + mode, x.cell(0), 2 * (1024 + 64 + 4 + 1) + 65);
+        }
+    }
+
+    private static void atBesideKeptRows() {
+        due.part("promise 11: by the rule, not by what a run kept");
+        for (int mode = 0; mode < 3; mode++) {
+            StencilCompiler x = Pipelines.neighbours(mode, 6, 4);
+            x.compile();
+            x.run();
+            due.is("at(1, -100) after a run in mode " + mode, x.at(1, -100), 0);
+            due.is("at(1, 100) after a run in mode " + mode, x.at(1, 100), 2 * 23 * 23);
+            x.input(2, 50);
+            due.is("at(1, 1) after a change in mode " + mode, x.at(1, 1), 50);
+            due.is("at(0, 2) after a change in mode " + mode, x.at(0, 2), 50);
         }
     }
 

@@ -30,6 +30,7 @@ public final class TermsEdgesTest {
         tilesAreCutOff();
         inlineEachTimeAnew();
         roomOfNothingKept();
+        roomOfSeveralRoots();
         roomOfGreatestTile();
         roomLeavesOutUnused();
         argumentsBeforeFull();
@@ -418,6 +419,17 @@ public final class TermsEdgesTest {
         StencilCompiler x = Pipelines.neighbours(0, 32, 4);
         x.compile();
         due.is("count(2)", x.count(2), 0);
+        due.is("count(5)", x.count(5), 0);
+    }
+
+    private static void roomOfSeveralRoots() {
+        due.part("The ROOM: the sum of the lengths of the REGIONS of the USED ROOT stages");
+        StencilCompiler x = Pipelines.neighbours(1, 5, 4);
+        Pipelines.addStage(x, 0, 1);
+        x.mode(1, 1);
+        x.output(2, 5);
+        x.compile();
+        due.is("count(2)", x.count(2), 7 + 5);
         due.is("count(5)", x.count(5), 0);
     }
 
