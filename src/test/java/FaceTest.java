@@ -68,6 +68,8 @@ public final class FaceTest {
     private static void gather(Set<String> found, Member member, String text) {
         if (!Modifier.isPrivate(member.getModifiers()) && !member.isSynthetic()) {
             found.add(text);
+        } else if (member instanceof Method method) {
+            noPublicName(method);
         }
         noStaticState(member);
     }
@@ -79,13 +81,17 @@ public final class FaceTest {
         }
     }
 
+    private static void noPublicName(Method method) {
+        for (String member : FACE) {
+            due.holds(method.getName() + " is no public name", !member.contains("." + method.getName() + "("));
+        }
+    }
+
     private static void insideClass(Class<?> inside) {
         due.holds(inside.getName() + " is static", Modifier.isStatic(inside.getModifiers()));
         due.holds(inside.getName() + " is not public", !Modifier.isPublic(inside.getModifiers()));
         for (Method method : inside.getDeclaredMethods()) {
-            for (String member : FACE) {
-                due.holds(method.getName() + " is no public name", !member.contains("." + method.getName() + "("));
-            }
+            noPublicName(method);
         }
         for (Field field : inside.getDeclaredFields()) {
             noStaticState(field);
